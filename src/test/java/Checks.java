@@ -1,0 +1,100 @@
+import java.nio.charset.StandardCharsets;
+import java.util.NoSuchElementException;
+
+/** What the tests share: counting of wrong answers, and texts fed to a house. */
+final class Checks {
+    private int made = 0;
+    private int wrong = 0;
+    private String about = "";
+
+    /** What the checks that follow are about. */
+    void about(String what) {
+        about = what;
+    }
+
+    void due(String call, long got, long want) {
+        made++;
+        if (got != want) {
+            wrong++;
+            System.out.println(about + ": " + call + " answered " + got + ", due is " + want);
+        }
+    }
+
+    void due(String call, boolean got, boolean want) {
+        due(call, got ? 1 : 0, want ? 1 : 0);
+    }
+
+    void troubleIs(WindowHouse house, int want) {
+        due("trouble()", house.trouble(), want);
+    }
+
+    /** That the ROW of the house is this one, and no longer. */
+    void rowIs(WindowHouse house, int... want) {
+        due("count(2)", house.count(2), want.length);
+        for (int k = 0; k < want.length; k++) {
+            due("row(" + k + ")", rowAt(house, k), want[k]);
+        }
+        due("row(" + want.length + ") throws", rowAt(house, want.length), Integer.MIN_VALUE);
+    }
+
+    /** ACT k of the ROW; the least int if NoSuchElementException was thrown. */
+    static int rowAt(WindowHouse house, int k) {
+        try {
+            return house.row(k);
+        } catch (NoSuchElementException none) {
+            return Integer.MIN_VALUE;
+        }
+    }
+
+    void end() {
+        System.out.println(made + " answers, " + wrong + " not as due");
+        if (wrong > 0 || made == 0) {
+            System.exit(1);
+        }
+    }
+
+    /** Feeds the text, filled up with blanks. */
+    static void feed(WindowHouse house, String text) {
+        feed(house, text.getBytes(StandardCharsets.ISO_8859_1));
+    }
+
+    static void feed(WindowHouse house, byte[] bytes) {
+        for (int at = 0; at < bytes.length; at += 20) {
+            int[] five = new int[5];
+            for (int k = 0; k < 20; k++) {
+                int sign = at + k < bytes.length ? bytes[at + k] & 255 : ' ';
+                five[k / 4] |= sign << 24 - 8 * (k % 4);
+            }
+            house.feed(five[0], five[1], five[2], five[3], five[4]);
+        }
+    }
+
+    static int tell(WindowHouse house, int a, String text) {
+        feed(house, text);
+        return house.app(a, text.length());
+    }
+
+    static WindowHouse with(String text) {
+        WindowHouse house = new WindowHouse();
+        if (tell(house, 0, text) < 0) {
+            System.out.println("the test's own text has a fault: " + house.fault() + " at " + house.where() + ": " + text);
+            System.exit(1);
+        }
+        return house;
+    }
+
+    static WindowHouse mapped(String text) {
+        WindowHouse house = with(text);
+        house.map(0);
+        return house;
+    }
+
+    static WindowHouse beside(String first, String second) {
+        WindowHouse house = with(first);
+        if (tell(house, 1, second) < 0) {
+            System.out.println("the test's own text has a fault: " + house.fault() + " at " + house.where() + ": " + second);
+            System.exit(1);
+        }
+        return house;
+    }
+}

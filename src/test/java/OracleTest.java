@@ -1,0 +1,199 @@
+import java.util.List;
+import java.util.NoSuchElementException;
+import java.util.TreeMap;
+
+/** Holds the class against the plain one, call by call, over many made texts and rows of calls. */
+public final class OracleTest {
+    private static final int TEXTS = 12000;
+    private static final int RUNS = Integer.getInteger("runs", 500);
+    private static final int CALLS = 512;
+    private static final long SEED = Long.getLong("seed", 1L);
+
+    private static int wrong = 0;
+    private static final TreeMap<String, Integer> seen = new TreeMap<>();
+
+    public static void main(String[] args) {
+        for (int k = 0; k < TEXTS && wrong == 0; k++) {
+            readOne(new TextMaker(SEED * 1_000_000 + k));
+        }
+        for (int k = 0; k < RUNS && wrong == 0; k++) {
+            runOne(new TextMaker(SEED * 9_000_000 + k));
+        }
+        System.out.println("met: " + seen);
+        for (String must : List.of("fault 0", "fault 1", "fault 2", "fault 3", "fault 4", "fault 5", "map 0", "map 5",
+                "apart -2", "apart row", "apart 100", "apart 5", "stuck -2", "shorter 0", "shorter 4", "kinds fewer")) {
+            if (!seen.containsKey(must)) {
+                System.out.println("never met: " + must);
+                wrong++;
+            }
+        }
+        if (wrong > 0) {
+            System.exit(1);
+        }
+    }
+
+    private static void note(String what) {
+        seen.merge(what, 1, Integer::sum);
+    }
+
+    private static void same(String call, int got, int want) {
+        if (got != want) {
+            wrong++;
+            System.out.println(call + " answered " + got + ", the plain one " + want);
+        }
+    }
+
+    private static void tell(WindowHouse house, Oracle oracle, int a, String text) {
+        for (int at = 0; at < text.length(); at += 20) {
+            int[] f = new int[5];
+            for (int k = 0; k < 20; k++) {
+                f[k / 4] |= (at + k < text.length() ? text.charAt(at + k) : ' ') << 24 - 8 * (k % 4);
+            }
+            same("feed", house.feed(f[0], f[1], f[2], f[3], f[4]), oracle.feed(f[0], f[1], f[2], f[3], f[4]));
+        }
+        int n = Math.min(text.length(), oracle.count(3));
+        same("app(" + a + ", " + text + ")", house.app(a, n), oracle.app(a, n));
+        same("trouble", house.trouble(), oracle.trouble());
+        same("fault", house.fault(), oracle.fault());
+        same("where in " + text, house.where(), oracle.where());
+        note("fault " + oracle.fault());
+    }
+
+    private static void readOne(TextMaker maker) {
+        WindowHouse house = new WindowHouse();
+        Oracle oracle = new Oracle();
+        List<String> tokens = maker.tokens(maker.once(2));
+        if (maker.once(10)) {
+            tell(house, oracle, 0, maker.text(tokens));
+        } else {
+            String text = maker.text(maker.once(4) ? maker.spoilt(maker.spoilt(tokens)) : maker.spoilt(tokens));
+            tell(house, oracle, 0, maker.once(5) ? text.substring(0, maker.upTo(text.length())) : text);
+        }
+        for (int what = -1; what < 7; what++) {
+            same("about", house.about(0, what), oracle.about(0, what));
+        }
+        for (int b = -1; b < 25; b++) {
+            for (int what = -1; what < 4; what++) {
+                same("button", house.button(0, b, what), oracle.button(0, b, what));
+            }
+        }
+    }
+
+    private static void runOne(TextMaker maker) {
+        WindowHouse house = new WindowHouse();
+        Oracle oracle = new Oracle();
+        List<String> first = maker.tokens(maker.once(12));
+        for (int call = 0; call < CALLS && wrong == 0; call++) {
+            if (call == 0 || maker.once(90)) {
+                first = maker.tokens(maker.once(12));
+                tell(house, oracle, 0, maker.text(first));
+            }
+            if (call == 10 || maker.once(50)) {
+                List<String> other = maker.once(5) ? first : maker.changed(first);
+                tell(house, oracle, maker.once(8) ? 0 : 1, maker.text(maker.once(9) ? maker.spoilt(other) : other));
+            }
+            int arg = maker.once(20) ? maker.upTo(60) - 30 : maker.upTo(9);
+            callOne(maker, house, oracle, arg);
+            same("trouble", house.trouble(), oracle.trouble());
+            same("where", house.where(), oracle.where());
+            same("fault", house.fault(), oracle.fault());
+            same("tried", house.tried(), oracle.tried());
+            for (int what = -1; what < 6; what++) {
+                same("count(" + what + ")", house.count(what), oracle.count(what));
+            }
+        }
+    }
+
+    private static int app(TextMaker maker) {
+        return maker.once(20) ? maker.upTo(4) - 1 : maker.once(4) ? 1 : 0;
+    }
+
+    private static int act(TextMaker maker) {
+        return maker.once(30) ? maker.upTo(200) - 50 : maker.once(3) ? 23 + maker.upTo(4) : maker.upTo(8);
+    }
+
+    private static void callOne(TextMaker maker, WindowHouse house, Oracle oracle, int arg) {
+        int a = app(maker);
+        int act = act(maker);
+        int s = maker.once(4) ? arg : maker.upTo(Math.max(1, oracle.count(0)));
+        switch (maker.upTo(23)) {
+            case 0, 1, 2 -> {
+                same("act", house.act(a, act), oracle.act(a, act));
+                for (int what = -1; what < 6; what++) {
+                    same("state", house.state(a, what), oracle.state(a, what));
+                }
+                for (int k = -1; k < 28; k++) {
+                    same("var", house.var(a, k), oracle.var(a, k));
+                    same("can", house.can(a, k), oracle.can(a, k));
+                }
+            }
+            case 3 -> same("begin", house.begin(a) ? 1 : 0, oracle.begin(a) ? 1 : 0);
+            case 4, 5 -> {
+                same("map", house.map(a), oracle.map(a));
+                note("map " + oracle.trouble());
+            }
+            case 6 -> {
+                for (int what = -1; what < 5; what++) {
+                    same("met", house.met(s, what), oracle.met(s, what));
+                }
+                for (int k = -1; k < 28; k++) {
+                    same("leads", house.leads(s, k), oracle.leads(s, k));
+                }
+            }
+            case 7 -> same("met 5", house.met(s, 5), oracle.met(s, 5));
+            case 8 -> same("rowTo", house.rowTo(s), oracle.rowTo(s));
+            case 9 -> same("faultAt", house.faultAt(arg), oracle.faultAt(arg));
+            case 10 -> same("pressedAt", house.pressedAt(arg), oracle.pressedAt(arg));
+            case 11 -> same("never", house.never(), oracle.never());
+            case 12 -> same("holdsAt", house.holdsAt(arg % 4, act), oracle.holdsAt(arg % 4, act));
+            case 13 -> {
+                int stuck = oracle.stuck(arg % 4);
+                same("stuck", house.stuck(arg % 4), stuck);
+                note("stuck " + (stuck > 0 ? "some" : stuck));
+            }
+            case 14 -> {
+                int least = oracle.least();
+                same("least", house.least(), least);
+                note("kinds " + (least < 0 ? "none" : least < oracle.count(0) ? "fewer" : "all"));
+            }
+            case 15 -> same("views", house.views(), oracle.views());
+            case 16 -> same("farthest", house.farthest(), oracle.farthest());
+            case 17 -> same("ways", house.ways(), oracle.ways());
+            case 18, 19 -> {
+                int many = maker.once(10) ? 60 : 5;
+                for (int k = 0; k < many; k++) {
+                    int next = act(maker);
+                    same("push", house.push(next), oracle.push(next));
+                }
+            }
+            case 20 -> same("cut", house.cut(arg * 3) ? 1 : 0, oracle.cut(arg * 3) ? 1 : 0);
+            case 21 -> same("tryRow", house.tryRow(a), oracle.tryRow(a));
+            case 22 -> {
+                same("shorter", house.shorter(a), oracle.shorter(a));
+                note("shorter " + oracle.trouble());
+                rows(house, oracle);
+            }
+            default -> {
+                int apart = oracle.apart();
+                same("apart", house.apart(), apart);
+                note("apart " + (apart == -2 ? "-2" : apart >= 0 ? "row" : oracle.trouble()));
+                if (apart > 0 && oracle.row(apart - 1) >= 100) {
+                    note("apart 100");
+                }
+                rows(house, oracle);
+            }
+        }
+    }
+
+    private static void rows(WindowHouse house, Oracle oracle) {
+        for (int k = -1; k <= oracle.count(2); k++) {
+            int want = Integer.MIN_VALUE;
+            try {
+                want = oracle.row(k);
+            } catch (NoSuchElementException none) {
+                want = Integer.MIN_VALUE;
+            }
+            same("row(" + k + ")", Checks.rowAt(house, k), want);
+        }
+    }
+}

@@ -1578,9 +1578,7 @@ public final class WindowHouse {
                     goByFirst(p, act);
                     lookAt(known);
                 }
-                for (int act = 0; act < ACTS && !ended(); act++) {
-                    findAloneInSecond(p, act);
-                }
+                findAloneInSecond(p);
             }
         }
 
@@ -1604,12 +1602,12 @@ public final class WindowHouse {
             tooMany = next == NONE;
         }
 
-        private void findAloneInSecond(int p, int act) {
-            long here = pairs.left[p];
-            long there = pairs.right[p];
-            if (second.possible(there, act) && !first.possible(here, twin(second, act, first, here))) {
+        /** A pair that shows alike has its BUTTONS, WAIT and TORN by the same names: BACK alone is left. */
+        private void findAloneInSecond(int p) {
+            boolean alone = second.possible(pairs.right[p], BACK) && !first.possible(pairs.left[p], BACK);
+            if (alone && !ended()) {
                 unlikeAt = p;
-                lastAct = OF_SECOND + act;
+                lastAct = OF_SECOND + BACK;
             }
         }
 

@@ -9,6 +9,7 @@ public final class ApartTest {
         unlikeLater();
         possibleInOneAlone();
         byNames();
+        toldAgain();
         most();
         counting();
         checks.end();
@@ -115,6 +116,31 @@ public final class ApartTest {
         apartIs("window a{button abcdefgh do close;}", "window a{button bbcdefgh do close;}", 1);
         // the same name in another window is another button
         alikeAre("window a{button x do open b;}window b{button x do close;}", "window a{button x do open b;}window b{button x do close;}", 2);
+    }
+
+    private static void toldAgain() {
+        checks.about("32 apart: again and again");
+        String large = "var a 9;var b 9;var c 4;window w{button a do add a 1;button b do add b 1;button c do add c 1;}";
+        WindowHouse x = Checks.beside("window a{button b do close;}", "window a{button b do open a;}");
+        checks.due("apart()", x.apart(), 2);
+        checks.rowIs(x, 0, 125);
+        checks.due("apart() again", x.apart(), 2);
+        Checks.tell(x, 1, "window a{button b do close;}");
+        checks.due("apart()", x.apart(), -2);
+        checks.due("count(4)", x.count(4), 1);
+        Checks.tell(x, 0, large);
+        Checks.tell(x, 1, large);
+        checks.due("apart()", x.apart(), -1);
+        checks.troubleIs(x, 5);
+        Checks.tell(x, 0, "window a{button b do fault 1;}");
+        Checks.tell(x, 1, "window a{button b do fault 2;}");
+        checks.due("apart()", x.apart(), 1);
+        checks.rowIs(x, 0);
+        checks.due("count(4)", x.count(4), 2);
+        Checks.tell(x, 0, "window a{button b do fault 2;}");
+        checks.due("apart()", x.apart(), -2);
+        checks.troubleIs(x, 0);
+        checks.due("count(4)", x.count(4), 2);
     }
 
     private static void most() {

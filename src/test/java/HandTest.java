@@ -223,6 +223,7 @@ public final class HandTest {
         checks.about("12 begin");
         WindowHouse x = Checks.with("kept k 3;var x 3;window a{button b do set k 1,set x 1,open c;}window c{button d do fault 1;}");
         acts(x, 0, 1);
+        x.act(0, 99);
         checks.due("begin(0)", x.begin(0), true);
         checks.troubleIs(x, 0);
         stateIs(x, 0, 1, 0, 0);

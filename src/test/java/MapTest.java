@@ -143,6 +143,13 @@ public final class MapTest {
             checks.due("faultAt(" + number + ")", x.faultAt(number), -1);
             checks.troubleIs(x, 2);
         }
+        // what a larger map had behind the states of this one is no matter
+        x = Checks.mapped("var x 2;window a{button b do set x 2,open c;}window c{button f do fault 5;}");
+        checks.due("faultAt(5)", x.faultAt(5), 2);
+        Checks.tell(x, 0, "var x 2;window a{button b do open c;}window c{}");
+        checks.due("map(0)", x.map(0), 2);
+        checks.due("faultAt(5)", x.faultAt(5), -2);
+        checks.due("holdsAt(0, 2)", x.holdsAt(0, 2), -2);
         // the first of two
         x = Checks.mapped("kept k 1;window a{button s do set k 1;button f do fault 20;}");
         checks.due("map", x.count(0), 4);
@@ -166,6 +173,9 @@ public final class MapTest {
         x = Checks.mapped("window a{}window b{button c do close;button d do close;}");
         checks.due("never()", x.never(), 2);
         x = Checks.mapped("window a{}");
+        checks.due("never()", x.never(), 0);
+        x = Checks.mapped("window a{button b do close;}");
+        checks.due("pressedAt(0), which leads to 0", x.pressedAt(0), 0);
         checks.due("never()", x.never(), 0);
     }
 
@@ -200,6 +210,10 @@ public final class MapTest {
         checks.troubleIs(x, 0);
         checks.due("stuck(1)", x.stuck(1), 1);
         checks.due("stuck(2)", x.stuck(2), 0);
+        // the only way is by the first button
+        x = Checks.mapped("window a{button o do open b;}window b{button o do open c;}window c{}");
+        checks.due("stuck(2)", x.stuck(2), -2);
+        checks.due("stuck(1)", x.stuck(1), -2);
         // a way of many waits, and one that leads back to states of lower numbers
         x = Checks.mapped("var x 1;window a{button o do open b;after 9 do open b;}window b{after 9 do open c;}window c{}");
         checks.due("stuck(0)", x.stuck(0), -2);
@@ -225,6 +239,10 @@ public final class MapTest {
         checks.due("map", x.count(0), 8);
         checks.due("views()", x.views(), 5);
         checks.due("least()", x.least(), 8);
+        checks.due("views() again", x.views(), 5);
+        checks.due("least() again", x.least(), 8);
+        x.map(0);
+        checks.due("least() of the same made again", x.least(), 8);
         // BACK is possible or not, though the view is one
         x = Checks.mapped("window a{button o do open a;}");
         checks.due("map", x.count(0), 5);
@@ -253,6 +271,9 @@ public final class MapTest {
         // a with x 0, with x 1; b with no button, with f; the fault
         checks.due("views()", x.views(), 5);
         checks.troubleIs(x, 0);
+        // what can be pressed in another window is not seen
+        x = Checks.mapped("var x 1;window a{button b do add x 1;}window c{button d if x=1 do close;}");
+        checks.due("views()", x.views(), 1);
         // the order in which values are shown
         x = Checks.mapped("var x 1;var y 1;window a{show x;show y;button b do add x 1;button c do add y 1;}");
         checks.due("views()", x.views(), 4);

@@ -27,8 +27,8 @@ public final class RowTest {
         WindowHouse x = new WindowHouse();
         for (int k = 0; k < 400; k++) {
             checks.due("push", x.push(k % 27), k + 1);
-            checks.troubleIs(x, 0);
         }
+        checks.troubleIs(x, 0);
         checks.due("push beyond 400", x.push(0), -1);
         checks.troubleIs(x, 4);
         for (int act : new int[] {-1, 27, 100, Integer.MIN_VALUE, Integer.MAX_VALUE}) {
@@ -93,6 +93,12 @@ public final class RowTest {
         checks.due("tryRow(0)", x.tryRow(0), 7);
         checks.due("tried()", x.tried(), 2);
         checks.rowIs(x, 3, 4, 26, 0, 0, 1);
+        x = Checks.with("window a{button f do fault 1;}");
+        for (int act : new int[] {24, 0, 26, 24}) {
+            x.push(act);
+        }
+        checks.due("tryRow(0)", x.tryRow(0), 1);
+        checks.due("tried()", x.tried(), 2);
         // waits, backs and torns count too
         x = with(3, 24, 25, 25, 0, 26, 0, 0, 1);
         checks.due("tryRow(0)", x.tryRow(0), 9);

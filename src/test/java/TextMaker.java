@@ -101,14 +101,28 @@ final class TextMaker {
     List<String> spoilt(List<String> whole) {
         List<String> other = new ArrayList<>(whole.isEmpty() ? List.of(";") : whole);
         int at = upTo(other.size() - 1);
-        switch (upTo(4)) {
+        switch (upTo(8)) {
             case 0 -> other.remove(at);
             case 1 -> other.add(at, STRAYS[upTo(STRAYS.length - 1)]);
             case 2 -> other.set(at, STRAYS[upTo(STRAYS.length - 1)]);
             case 3 -> other.add(at, other.get(upTo(other.size() - 1)));
+            case 4, 5 -> replaceOneLike("[a-z]+", other, NAMES[upTo(NAMES.length - 1)]);
+            case 6, 7 -> replaceOneLike("[0-9]+", other, "" + upTo(22));
             default -> other.subList(at, other.size()).clear();
         }
         return other;
+    }
+
+    private void replaceOneLike(String form, List<String> some, String by) {
+        List<Integer> places = new ArrayList<>();
+        for (int k = 0; k < some.size(); k++) {
+            if (some.get(k).matches(form)) {
+                places.add(k);
+            }
+        }
+        if (!places.isEmpty()) {
+            some.set(places.get(upTo(places.size() - 1)), by);
+        }
     }
 
     /** A text that most likely is whole again: one NUMBER or one name of a WINDOW is another one. */

@@ -16,6 +16,7 @@ public final class TextsTest {
         many();
         aboutApps();
         buttons();
+        toldAgain();
         checks.end();
     }
 
@@ -91,6 +92,16 @@ public final class TextsTest {
         Checks.feed(x, "window a { } window b { }");
         checks.due("app(1, 12)", x.app(1, 12), 1);
         checks.due("count(3)", x.count(3), 0);
+        // what stands behind the n bytes is not looked at
+        Checks.feed(x, "windowx");
+        checks.due("app(1, 6)", x.app(1, 6), -1);
+        checks.due("where()", x.where(), 6);
+        Checks.feed(x, "var x 123");
+        checks.due("app(1, 7)", x.app(1, 7), -1);
+        checks.due("fault()", x.fault(), 1);
+        checks.due("where()", x.where(), 7);
+        Checks.feed(x, "window a{}}");
+        checks.due("app(1, 10)", x.app(1, 10), 1);
         // the beginning by hand, and no map of it
         x = Checks.with("var x 2; window a { button b do add x 1; }");
         x.act(0, 0);
@@ -199,6 +210,14 @@ public final class TextsTest {
         faultIs(0, "var x5;window a{button b if x=1do close;}");
         faultIs(1, "@win dow a{}");
         faultIs(1, "var x 1 @1;window a{}");
+        for (String key : new String[] {"var", "kept", "window", "show", "button", "after", "if", "and", "do", "open", "close", "set", "add", "fault"}) {
+            // a word is a key as a whole only: not with another first or last letter, nor a longer or a shorter one
+            String[] nearly = {"x" + key.substring(1), key.substring(0, key.length() - 1) + "x", key + "x", key.substring(1)};
+            for (String word : nearly) {
+                String whole = " var x 1 ; kept y 1 ; window a { show x ; button b if x = 1 and x = 1 do open a , close , set x 1 , add x 1 ; after 1 do fault 1 ; } ";
+                faultIs(1, whole.replaceFirst(" " + key + " ", " @" + word + " "));
+            }
+        }
         faultIs(1, "window a{} @#");
         faultIs(1, "window a{} @A");
     }
@@ -321,5 +340,44 @@ public final class TextsTest {
             checks.due("button(0, " + b + ", 0)", x.button(0, b, 0), -1);
         }
         checks.troubleIs(x, 0);
+    }
+
+    /** Nothing of a former app is left in a later one, whichever of the two it was, whole or not. */
+    private static void toldAgain() {
+        checks.about("3 app: told again");
+        String large = "kept x 1;kept y 1;window a{show x;show y;button b if x=1 do close,close;button c if y=1 and x=1 do fault 1;after 2 do fault 2,close;}"
+                + "window d{show y;button e if x=1 do close;after 1 do close;}";
+        String spoilt = large + "window e{show x;button b if x=1 do close,close;after 3 do close;";
+        String small = "var x 3;window a{button b do set x 1;}window d{button e do close;button f do open a;}";
+        WindowHouse x = new WindowHouse();
+        for (int k = 0; k < 6; k++) {
+            Checks.tell(x, k % 2, k == 3 ? spoilt : large);
+        }
+        for (int k = 0; k < 3; k++) {
+            int a = k % 2;
+            checks.due("tell small", Checks.tell(x, a, small), 2);
+            int[] about = {2, 3, 1, 0, 0, 0};
+            for (int what = 0; what < 6; what++) {
+                checks.due("about(a, " + what + ")", x.about(a, what), about[what]);
+            }
+            int[][] button = {{0, 0, 1}, {1, 0, 1}, {1, 0, 1}};
+            for (int b = 0; b < 3; b++) {
+                for (int what = 0; what < 3; what++) {
+                    checks.due("button(a, " + b + ", " + what + ")", x.button(a, b, what), button[b][what]);
+                }
+            }
+            checks.due("press", x.act(a, 0), 1);
+            checks.due("var(a, 0)", x.var(a, 0), 1);
+            checks.due("wait", x.act(a, 24), 1);
+            checks.due("state(a, 3)", x.state(a, 3), 0);
+            checks.due("torn", x.act(a, 26), 1);
+            checks.due("var(a, 0)", x.var(a, 0), 0);
+            checks.due("map(a)", x.map(a), 2);
+            checks.due("views()", x.views(), 1);
+            Checks.tell(x, a, "window a{}window b{}");
+            checks.due("tell smallest", x.about(a, 1), 0);
+            checks.due("map(a)", x.map(a), 1);
+            checks.due("ways()", x.ways(), 2);
+        }
     }
 }

@@ -46,6 +46,27 @@ final class Checks {
         }
     }
 
+    /** The text has a fault where @ stands; without @ it has none. */
+    void faultIs(int number, String marked) {
+        int place = marked.indexOf('@');
+        String text = marked.replace("@", "");
+        WindowHouse x = new WindowHouse();
+        int windows = tell(x, 0, text);
+        due("whether refused: " + marked, windows < 0, number > 0);
+        due("fault(): " + marked, x.fault(), number);
+        due("where(): " + marked, x.where(), place);
+        due("trouble(): " + marked, x.trouble(), number > 0 ? 3 : 0);
+    }
+
+    /** The part again and again, with a, b, c .. for its question marks. */
+    static String repeated(String part, int times) {
+        StringBuilder text = new StringBuilder();
+        for (int k = 0; k < times; k++) {
+            text.append(part.replace('?', (char) ('a' + k)));
+        }
+        return text.toString();
+    }
+
     void end() {
         System.out.println(made + " answers, " + wrong + " not as due");
         if (wrong > 0 || made == 0) {

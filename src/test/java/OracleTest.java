@@ -1,3 +1,4 @@
+import java.util.ArrayList;
 import java.util.List;
 import java.util.NoSuchElementException;
 import java.util.TreeMap;
@@ -10,6 +11,8 @@ public final class OracleTest {
     private static final int MOST_CALLS = 512;
     /** More than any step of a run makes, the telling of two texts with it. */
     private static final int ONE_STEP = 190;
+    /** How long a way to a FAULT may be that is pushed ACT by ACT. */
+    private static final int MOST_WAY = 40;
     private static final long SEED = Long.getLong("seed", 1L);
 
     private static int wrong = 0;
@@ -22,6 +25,9 @@ public final class OracleTest {
         }
         for (int k = 0; k < RUNS && wrong == 0; k++) {
             runOne(new TextMaker(SEED * 9_000_000 + k));
+        }
+        for (int k = 0; k < RUNS && wrong == 0; k++) {
+            shortenOne(new TextMaker(SEED * 5_000_000 + k));
         }
         System.out.println("met: " + seen);
         for (String must : List.of("fault 0", "fault 1", "fault 2", "fault 3", "fault 4", "fault 5", "map 0", "map 5",
@@ -115,6 +121,22 @@ public final class OracleTest {
         }
     }
 
+    /** A run that does nothing but make rows shorter that come to a fault: such are rare among the others. */
+    private static void shortenOne(TextMaker maker) {
+        WindowHouse house = new WindowHouse();
+        Oracle oracle = new Oracle();
+        calls = 0;
+        tell(house, oracle, 0, maker.text(maker.tokens(false)));
+        same("map", house.map(0), oracle.map(0));
+        boolean some = oracle.faultAt(1) >= 0 || oracle.faultAt(2) >= 0;
+        while (some && calls < MOST_CALLS - ONE_STEP && wrong == 0) {
+            pushWayToFault(maker, house, oracle);
+            same("shorter", house.shorter(0), oracle.shorter(0));
+            note("shorter " + oracle.trouble());
+            rows(house, oracle);
+        }
+    }
+
     private static int app(TextMaker maker) {
         return maker.once(20) ? maker.upTo(4) - 1 : maker.once(4) ? 1 : 0;
     }
@@ -173,6 +195,9 @@ public final class OracleTest {
             case 20 -> same("cut", house.cut(arg * 3) ? 1 : 0, oracle.cut(arg * 3) ? 1 : 0);
             case 21 -> same("tryRow", house.tryRow(a), oracle.tryRow(a));
             case 22 -> {
+                if (maker.once(2)) {
+                    pushWayToFault(maker, house, oracle);
+                }
                 same("shorter", house.shorter(a), oracle.shorter(a));
                 note("shorter " + oracle.trouble());
                 rows(house, oracle);
@@ -186,6 +211,28 @@ public final class OracleTest {
                 }
                 rows(house, oracle);
             }
+        }
+    }
+
+    /** Makes THE ROW one to a FAULT, if the map has it, with other ACTS in between. */
+    private static void pushWayToFault(TextMaker maker, WindowHouse house, Oracle oracle) {
+        int number = 1 + (maker.once(3) ? maker.upTo(19) : maker.upTo(1));
+        int s = oracle.faultAt(number);
+        same("faultAt", house.faultAt(number), s);
+        if (s < 0) {
+            return;
+        }
+        same("rowTo", house.rowTo(s), oracle.rowTo(s));
+        List<Integer> way = new ArrayList<>();
+        for (int k = 0; k < oracle.count(2); k++) {
+            way.add(oracle.row(k));
+        }
+        for (int extra = maker.upTo(12); extra > 0 && way.size() < MOST_WAY; extra--) {
+            way.add(maker.upTo(way.size()), maker.once(3) ? 26 : act(maker));
+        }
+        same("cut", house.cut(0) ? 1 : 0, oracle.cut(0) ? 1 : 0);
+        for (int act : way.subList(0, Math.min(MOST_WAY, way.size()))) {
+            same("push", house.push(act), oracle.push(act));
         }
     }
 

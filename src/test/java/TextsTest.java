@@ -145,18 +145,6 @@ public final class TextsTest {
         checks.due("where()", x.where(), -1);
     }
 
-    /** The text has a fault where @ stands; without @ it has none. */
-    private static void faultIs(int number, String marked) {
-        int place = marked.indexOf('@');
-        String text = marked.replace("@", "");
-        WindowHouse x = new WindowHouse();
-        int windows = Checks.tell(x, 0, text);
-        checks.due("whether refused: " + marked, windows < 0, number > 0);
-        checks.due("fault(): " + marked, x.fault(), number);
-        checks.due("where(): " + marked, x.where(), place);
-        checks.due("trouble(): " + marked, x.trouble(), number > 0 ? 3 : 0);
-    }
-
     private static void form() {
         checks.about("II 1 form");
         String[] whole = {
@@ -167,7 +155,7 @@ public final class TextsTest {
             "window abcdefgh{}", "window a{after 1 do close,close,close,close;}",
             "var a 1;window a{button a do open a;}window b{button a do open b;}"};
         for (String text : whole) {
-            faultIs(0, text);
+            checks.faultIs(0, text);
         }
         String[] spoilt = {
             "@", "   @", "@a", "@}", "window@", "window @{", "window a@", "window a @;", "window a{@", "window a{}@;",
@@ -186,7 +174,7 @@ public final class TextsTest {
             "window a{after @do close;}", "window a{after 1 @close;}", "window a{after 1 do close@}", "window a{@window b{}}",
             "window a{@var x 1;}", "window a{@do}", "window a{} @a", "window a{} window @2"};
         for (String text : spoilt) {
-            faultIs(1, text);
+            checks.faultIs(1, text);
         }
     }
 
@@ -201,105 +189,97 @@ public final class TextsTest {
             int place = sign == '}' ? 10 : 9;
             checks.due("where() with sign " + sign, x.where(), blank ? -1 : place);
         }
-        faultIs(1, "window @abcdefghi{}");
-        faultIs(1, "@windowabcd{}");
-        faultIs(1, "var x @111;window a{}");
-        faultIs(1, "var x @001;window a{}");
-        faultIs(1, "window a{button b do fault @200;}");
+        checks.faultIs(1, "window @abcdefghi{}");
+        checks.faultIs(1, "@windowabcd{}");
+        checks.faultIs(1, "var x @111;window a{}");
+        checks.faultIs(1, "var x @001;window a{}");
+        checks.faultIs(1, "window a{button b do fault @200;}");
         // no blank is needed between letters and digits, and one parts a word in two
-        faultIs(0, "var x5;window a{button b if x=1do close;}");
-        faultIs(1, "@win dow a{}");
-        faultIs(1, "var x 1 @1;window a{}");
+        checks.faultIs(0, "var x5;window a{button b if x=1do close;}");
+        checks.faultIs(1, "@win dow a{}");
+        checks.faultIs(1, "var x 1 @1;window a{}");
         for (String key : new String[] {"var", "kept", "window", "show", "button", "after", "if", "and", "do", "open", "close", "set", "add", "fault"}) {
             // a word is a key as a whole only: not with another first or last letter, nor a longer or a shorter one
             String[] nearly = {"x" + key.substring(1), key.substring(0, key.length() - 1) + "x", key + "x", key.substring(1)};
             for (String word : nearly) {
                 String whole = " var x 1 ; kept y 1 ; window a { show x ; button b if x = 1 and x = 1 do open a , close , set x 1 , add x 1 ; after 1 do fault 1 ; } ";
-                faultIs(1, whole.replaceFirst(" " + key + " ", " @" + word + " "));
+                checks.faultIs(1, whole.replaceFirst(" " + key + " ", " @" + word + " "));
             }
         }
-        faultIs(1, "window a{} @#");
-        faultIs(1, "window a{} @A");
+        checks.faultIs(1, "window a{} @#");
+        checks.faultIs(1, "window a{} @A");
     }
 
     private static void unknownNames() {
         checks.about("II 2 no such");
-        faultIs(2, "window a{show @x;}");
-        faultIs(2, "var x 1;window a{button b if @y=1 do close;}");
-        faultIs(2, "var x 1;window a{button b if x=1 and @a=1 do close;}");
-        faultIs(2, "window a{button b do set @x 1;}");
-        faultIs(2, "window a{after 1 do add @x 99;}");
+        checks.faultIs(2, "window a{show @x;}");
+        checks.faultIs(2, "var x 1;window a{button b if @y=1 do close;}");
+        checks.faultIs(2, "var x 1;window a{button b if x=1 and @a=1 do close;}");
+        checks.faultIs(2, "window a{button b do set @x 1;}");
+        checks.faultIs(2, "window a{after 1 do add @x 99;}");
         // a fourth COND of no VAR: of one place the least number
-        faultIs(2, "var x 1;window a{button b if x=1 and x=1 and x=1 and @y=1 do close;}");
+        checks.faultIs(2, "var x 1;window a{button b if x=1 and x=1 and x=1 and @y=1 do close;}");
         // an open is judged behind the whole text
-        faultIs(2, "window a{button b do open @c;}window b{}");
-        faultIs(2, "window a{button b do close;after 1 do open @c;}window b{button a do open d;}");
-        faultIs(2, "window a{button b do open b,open @c,open d;}window b{}");
-        faultIs(1, "window a{button b do open c;}window b{} @;");
-        faultIs(4, "window a{button b do open c;}window b{button d do fault @0;}");
-        faultIs(3, "window a{button b do open c;}window @a{}");
-        faultIs(0, "window a{button b do open c;}window b{}window c{}");
+        checks.faultIs(2, "window a{button b do open @c;}window b{}");
+        checks.faultIs(2, "window a{button b do close;after 1 do open @c;}window b{button a do open d;}");
+        checks.faultIs(2, "window a{button b do open b,open @c,open d;}window b{}");
+        checks.faultIs(1, "window a{button b do open c;}window b{} @;");
+        checks.faultIs(4, "window a{button b do open c;}window b{button d do fault @0;}");
+        checks.faultIs(3, "window a{button b do open c;}window @a{}");
+        checks.faultIs(0, "window a{button b do open c;}window b{}window c{}");
         // a VAR's name is no WINDOW's
-        faultIs(2, "var x 1;window a{button b do open @x;}");
+        checks.faultIs(2, "var x 1;window a{button b do open @x;}");
     }
 
     private static void twice() {
         checks.about("II 3 twice");
-        faultIs(3, "var x 1;kept @x 99;window a{}");
-        faultIs(3, "window a{}window @a{}");
-        faultIs(3, "window a{}window b{}window @a;");
-        faultIs(3, "window a{button b do close;button @b fly;}");
-        faultIs(3, "window a{}window c{button b do close;button d do close;button @b do close;}");
-        faultIs(0, "window a{button b do close;}window c{button b do close;}");
+        checks.faultIs(3, "var x 1;kept @x 99;window a{}");
+        checks.faultIs(3, "window a{}window @a{}");
+        checks.faultIs(3, "window a{}window b{}window @a;");
+        checks.faultIs(3, "window a{button b do close;button @b fly;}");
+        checks.faultIs(3, "window a{}window c{button b do close;button d do close;button @b do close;}");
+        checks.faultIs(0, "window a{button b do close;}window c{button b do close;}");
     }
 
     private static void numbers() {
         checks.about("II 4 beyond");
         for (int n : new int[] {0, 10, 99}) {
-            faultIs(4, "var x @" + n + ";window a{}");
-            faultIs(4, "kept x @" + n + " window a{}");
-            faultIs(4, "window a{after @" + n + " do close;}");
-            faultIs(4, "var x 1;window a{button b do add x @" + n + ";}");
+            checks.faultIs(4, "var x @" + n + ";window a{}");
+            checks.faultIs(4, "kept x @" + n + " window a{}");
+            checks.faultIs(4, "window a{after @" + n + " do close;}");
+            checks.faultIs(4, "var x 1;window a{button b do add x @" + n + ";}");
         }
-        faultIs(4, "var x 1;window a{button b if x>@10 do close;}");
-        faultIs(4, "var x 9;window a{button b do set x @10;}");
-        faultIs(4, "var y 9;var x 4;window a{button b do set x @5;}");
-        faultIs(4, "window a{button b do fault @0;}");
-        faultIs(4, "window a{button b do fault @21;}");
-        faultIs(0, "var y 2;var x 4;window a{button b if x=9 do set x 4,set y 0,add y 9,fault 1;}");
-    }
-
-    private static String repeated(String part, int times) {
-        StringBuilder text = new StringBuilder();
-        for (int k = 0; k < times; k++) {
-            text.append(part.replace('?', (char) ('a' + k)));
-        }
-        return text.toString();
+        checks.faultIs(4, "var x 1;window a{button b if x>@10 do close;}");
+        checks.faultIs(4, "var x 9;window a{button b do set x @10;}");
+        checks.faultIs(4, "var y 9;var x 4;window a{button b do set x @5;}");
+        checks.faultIs(4, "window a{button b do fault @0;}");
+        checks.faultIs(4, "window a{button b do fault @21;}");
+        checks.faultIs(0, "var y 2;var x 4;window a{button b if x=9 do set x 4,set y 0,add y 9,fault 1;}");
     }
 
     private static void many() {
         checks.about("II 5 many");
-        faultIs(0, repeated("var ? 1;", 6) + "window a{}");
-        faultIs(5, repeated("var ? 1;", 6) + "@var a 1;window a{}");
-        faultIs(5, repeated("kept ? 1;", 6) + "@kept 1");
-        faultIs(1, repeated("kept ? 1;", 6) + "@show");
-        faultIs(0, repeated("window ?{}", 8));
-        faultIs(5, repeated("window ?{}", 8) + "@window a{}");
-        faultIs(1, repeated("window ?{}", 8) + "@var");
-        faultIs(0, "window a{" + repeated("button ? do close;", 24) + "}");
-        faultIs(5, "window a{" + repeated("button ? do close;", 24) + "@button a}");
-        faultIs(5, "window a{" + repeated("button ? do close;", 12) + "}window b{" + repeated("button ? do close;", 12) + "@button z do close;}");
-        faultIs(1, "window a{" + repeated("button ? do close;", 24) + "after 1 do close;@button");
-        faultIs(0, "var x 1;window a{" + repeated("show x;", 6) + "}window b{show x;}");
-        faultIs(5, "var x 1;window a{" + repeated("show x;", 6) + "@show y;}");
-        faultIs(1, "var x 1;window a{" + repeated("show x;", 6) + "button b do close;@show x;}");
-        faultIs(0, "var x 1;window a{button b if x=1 and x=1 and x=1 do close;}");
-        faultIs(5, "var x 1;window a{button b if x=1 and x=1 and x=1 and @x close;}");
-        faultIs(1, "var x 1;window a{button b if x=1 and x=1 and x=1 and @1 do close;}");
-        faultIs(5, "window a{button b do close,close,close,close,@fault 99;}");
-        faultIs(1, "window a{button b do close,close,close,close,@fly;}");
-        faultIs(1, "window a{button b do close,close,close,close,@;}");
-        faultIs(5, "window a{after 1 do close,close,close,close,@open;}");
+        checks.faultIs(0, Checks.repeated("var ? 1;", 6) + "window a{}");
+        checks.faultIs(5, Checks.repeated("var ? 1;", 6) + "@var a 1;window a{}");
+        checks.faultIs(5, Checks.repeated("kept ? 1;", 6) + "@kept 1");
+        checks.faultIs(1, Checks.repeated("kept ? 1;", 6) + "@show");
+        checks.faultIs(0, Checks.repeated("window ?{}", 8));
+        checks.faultIs(5, Checks.repeated("window ?{}", 8) + "@window a{}");
+        checks.faultIs(1, Checks.repeated("window ?{}", 8) + "@var");
+        checks.faultIs(0, "window a{" + Checks.repeated("button ? do close;", 24) + "}");
+        checks.faultIs(5, "window a{" + Checks.repeated("button ? do close;", 24) + "@button a}");
+        checks.faultIs(5, "window a{" + Checks.repeated("button ? do close;", 12) + "}window b{" + Checks.repeated("button ? do close;", 12) + "@button z do close;}");
+        checks.faultIs(1, "window a{" + Checks.repeated("button ? do close;", 24) + "after 1 do close;@button");
+        checks.faultIs(0, "var x 1;window a{" + Checks.repeated("show x;", 6) + "}window b{show x;}");
+        checks.faultIs(5, "var x 1;window a{" + Checks.repeated("show x;", 6) + "@show y;}");
+        checks.faultIs(1, "var x 1;window a{" + Checks.repeated("show x;", 6) + "button b do close;@show x;}");
+        checks.faultIs(0, "var x 1;window a{button b if x=1 and x=1 and x=1 do close;}");
+        checks.faultIs(5, "var x 1;window a{button b if x=1 and x=1 and x=1 and @x close;}");
+        checks.faultIs(1, "var x 1;window a{button b if x=1 and x=1 and x=1 and @1 do close;}");
+        checks.faultIs(5, "window a{button b do close,close,close,close,@fault 99;}");
+        checks.faultIs(1, "window a{button b do close,close,close,close,@fly;}");
+        checks.faultIs(1, "window a{button b do close,close,close,close,@;}");
+        checks.faultIs(5, "window a{after 1 do close,close,close,close,@open;}");
     }
 
     private static void aboutApps() {

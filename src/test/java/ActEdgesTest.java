@@ -25,20 +25,6 @@ public final class ActEdgesTest {
         checks.end();
     }
 
-    private static void acts(WindowHouse x, int... acts) {
-        for (int act : acts) {
-            checks.due("can(0, " + act + ")", x.can(0, act), 1);
-            checks.due("act(0, " + act + ")", x.act(0, act), 1);
-        }
-    }
-
-    /** The FAULT, how many WINDOWS, the topmost, its TICKS. */
-    private static void stateIs(WindowHouse x, int... due) {
-        for (int what = 0; what < due.length; what++) {
-            checks.due("state(0, " + what + ")", x.state(0, what), due[what]);
-        }
-    }
-
     private static void varsAre(WindowHouse x, int... due) {
         for (int v = 0; v < due.length; v++) {
             checks.due("var(0, " + v + ")", x.var(0, v), due[v]);
@@ -49,10 +35,10 @@ public final class ActEdgesTest {
     private static void beginning() {
         checks.about("III: The BEGINNING: the first WINDOW alone, TICKS 0, all VARS 0");
         WindowHouse x = Checks.with("kept a 9;var b 9;window z{after 9 do close;}window a{}");
-        stateIs(x, 0, 1, 0, 0, 2);
+        checks.stateIs(x, 0, 1, 0, 0, 2);
         varsAre(x, 0, 0);
         x = Checks.with("window a{}");
-        stateIs(x, 0, 1, 0, 0, 2);
+        checks.stateIs(x, 0, 1, 0, 0, 2);
         varsAre(x);
     }
 
@@ -74,10 +60,10 @@ public final class ActEdgesTest {
             }
             checks.due("state(0, 4)", x.state(0, 4), due[k].length + (k == 0 ? 2 : 3));
             if (k < 3) {
-                acts(x, next[k]);
+                checks.acts(x, next[k]);
             }
         }
-        stateIs(x, 0, 4, 2, 0, 3);
+        checks.stateIs(x, 0, 4, 2, 0, 3);
     }
 
     private static void condsHold() {
@@ -89,7 +75,7 @@ public final class ActEdgesTest {
                 checks.due(value + "=" + number, x.can(0, 0), value == number ? 1 : 0);
                 checks.due(value + "<" + number, x.can(0, 1), value < number ? 1 : 0);
                 checks.due(value + ">" + number, x.can(0, 2), value > number ? 1 : 0);
-                acts(x, 3);
+                checks.acts(x, 3);
             }
         }
         // beyond what the VAR can be: = and > never hold, < always does
@@ -98,7 +84,7 @@ public final class ActEdgesTest {
             checks.due("x=2", x.can(0, 0), 0);
             checks.due("x<2", x.can(0, 1), 1);
             checks.due("x>1", x.can(0, 2), 0);
-            acts(x, 3);
+            checks.acts(x, 3);
         }
         // all of them, the first, the second and the third
         x = Checks.with("var x 1;var y 1;var z 1;window a{button x do add x 1;button y do add y 1;button z do add z 1;"
@@ -107,12 +93,12 @@ public final class ActEdgesTest {
             checks.due("of three", x.can(0, 3), k == 7 ? 1 : 0);
             checks.due("of two", x.can(0, 4), (k & 3) == 3 ? 1 : 0);
             // as one counts by twos
-            acts(x, 0);
+            checks.acts(x, 0);
             if ((k & 1) == 1) {
-                acts(x, 1);
+                checks.acts(x, 1);
             }
             if ((k & 3) == 3) {
-                acts(x, 2);
+                checks.acts(x, 2);
             }
         }
     }
@@ -121,18 +107,18 @@ public final class ActEdgesTest {
         checks.about("III: its DEEDS are done in order");
         WindowHouse x = Checks.with("var x 9;window a{button a do set x 3,add x 4,set x 5,add x 1;button b do close,open b;button c do open b,close;"
                 + "button d do open b,open c,close,close;}window b{button e do close,open c,open b;}window c{}");
-        acts(x, 0);
+        checks.acts(x, 0);
         varsAre(x, 6);
-        acts(x, 2);
-        stateIs(x, 0, 1, 0, 0);
-        acts(x, 3);
-        stateIs(x, 0, 1, 0, 0);
-        acts(x, 1);
-        stateIs(x, 0, 2, 1, 0);
-        acts(x, 4);
-        stateIs(x, 0, 3, 1, 0);
-        acts(x, 25);
-        stateIs(x, 0, 2, 2, 0);
+        checks.acts(x, 2);
+        checks.stateIs(x, 0, 1, 0, 0);
+        checks.acts(x, 3);
+        checks.stateIs(x, 0, 1, 0, 0);
+        checks.acts(x, 1);
+        checks.stateIs(x, 0, 2, 1, 0);
+        checks.acts(x, 4);
+        checks.stateIs(x, 0, 3, 1, 0);
+        checks.acts(x, 25);
+        checks.stateIs(x, 0, 2, 2, 0);
     }
 
     private static void waitWithTimer() {
@@ -140,68 +126,68 @@ public final class ActEdgesTest {
         for (int ticks = 1; ticks <= 9; ticks++) {
             WindowHouse x = Checks.with("var x 9;window a{after " + ticks + " do add x 1;}");
             for (int k = 1; k <= 2 * ticks; k++) {
-                acts(x, 24);
+                checks.acts(x, 24);
                 checks.due("state(0, 3)", x.state(0, 3), k % ticks);
                 checks.due("var(0, 0)", x.var(0, 0), k / ticks);
             }
         }
         // of the topmost WINDOW alone: those below stand still
         WindowHouse x = Checks.with("window a{button o do open b;after 9 do close;}window b{button o do open a;after 9 do close;}");
-        acts(x, 24, 24, 24, 0, 24, 24, 1, 24);
-        stateIs(x, 0, 3, 0, 1);
-        acts(x, 25);
-        stateIs(x, 0, 2, 1, 2);
-        acts(x, 25);
-        stateIs(x, 0, 1, 0, 3);
+        checks.acts(x, 24, 24, 24, 0, 24, 24, 1, 24);
+        checks.stateIs(x, 0, 3, 0, 1);
+        checks.acts(x, 25);
+        checks.stateIs(x, 0, 2, 1, 2);
+        checks.acts(x, 25);
+        checks.stateIs(x, 0, 1, 0, 3);
     }
 
     private static void waitWithout() {
         checks.about("III: WAIT: possible with no FAULT");
         WindowHouse x = Checks.with("var x 9;window a{button f do fault 1;button b do open b;}window b{after 1 do add x 1;}");
-        acts(x, 24, 24, 24);
-        stateIs(x, 0, 1, 0, 0);
+        checks.acts(x, 24, 24, 24);
+        checks.stateIs(x, 0, 1, 0, 0);
         varsAre(x, 0);
-        acts(x, 1, 24, 25, 24);
+        checks.acts(x, 1, 24, 25, 24);
         varsAre(x, 1);
-        acts(x, 0);
+        checks.acts(x, 0);
         checks.due("can(0, 24)", x.can(0, 24), 0);
         checks.due("act(0, 24)", x.act(0, 24), -1);
         checks.troubleIs(x, 4);
-        stateIs(x, 1, 0, -1, -1, 1);
+        checks.stateIs(x, 1, 0, -1, -1, 1);
     }
 
     private static void ticksAreZeroAgain() {
         checks.about("III: TICKS are 0 again, then the DEEDS are done");
         // the WINDOW that opens another has no TICKS when it comes back
         WindowHouse x = Checks.with("window a{after 2 do open b;}window b{after 1 do close;}");
-        acts(x, 24, 24);
-        stateIs(x, 0, 2, 1, 0);
-        acts(x, 24);
-        stateIs(x, 0, 1, 0, 0);
-        acts(x, 24);
-        stateIs(x, 0, 1, 0, 1);
+        checks.acts(x, 24, 24);
+        checks.stateIs(x, 0, 2, 1, 0);
+        checks.acts(x, 24);
+        checks.stateIs(x, 0, 1, 0, 0);
+        checks.acts(x, 24);
+        checks.stateIs(x, 0, 1, 0, 1);
         // one that closes itself leaves those of the one below alone
         x = Checks.with("window a{button o do open b;after 5 do close;}window b{after 2 do close,close;}");
-        acts(x, 24, 24, 24, 24, 0, 24, 24);
-        stateIs(x, 0, 1, 0, 4);
-        acts(x, 24);
-        stateIs(x, 0, 1, 0, 0);
+        checks.acts(x, 24, 24, 24, 24, 0, 24, 24);
+        checks.stateIs(x, 0, 1, 0, 4);
+        checks.acts(x, 24);
+        checks.stateIs(x, 0, 1, 0, 0);
         // with a FAULT none are left
         x = Checks.with("window a{after 9 do fault 9;}");
-        acts(x, 24, 24, 24, 24, 24, 24, 24, 24, 24);
-        stateIs(x, 9, 0, -1, -1, 1);
-        acts(x, 26);
-        stateIs(x, 0, 1, 0, 0);
+        checks.acts(x, 24, 24, 24, 24, 24, 24, 24, 24, 24);
+        checks.stateIs(x, 9, 0, -1, -1, 1);
+        checks.acts(x, 26);
+        checks.stateIs(x, 0, 1, 0, 0);
         // BACK, a press and TORN make no TICKS
         x = Checks.with("window a{button o do open a;button n do close;after 4 do close;}");
-        acts(x, 24, 1);
-        stateIs(x, 0, 1, 0, 1);
-        acts(x, 0);
-        stateIs(x, 0, 2, 0, 0);
-        acts(x, 24, 24, 25);
-        stateIs(x, 0, 1, 0, 1);
-        acts(x, 26);
-        stateIs(x, 0, 1, 0, 0);
+        checks.acts(x, 24, 1);
+        checks.stateIs(x, 0, 1, 0, 1);
+        checks.acts(x, 0);
+        checks.stateIs(x, 0, 2, 0, 0);
+        checks.acts(x, 24, 24, 25);
+        checks.stateIs(x, 0, 1, 0, 1);
+        checks.acts(x, 26);
+        checks.stateIs(x, 0, 1, 0, 0);
     }
 
     private static void backWithTwo() {
@@ -210,20 +196,20 @@ public final class ActEdgesTest {
         checks.due("can(0, 25) with one", x.can(0, 25), 0);
         checks.due("act(0, 25) with one", x.act(0, 25), -1);
         checks.troubleIs(x, 4);
-        stateIs(x, 0, 1, 0, 0, 3);
-        acts(x, 0, 1, 0, 1);
+        checks.stateIs(x, 0, 1, 0, 0, 3);
+        checks.acts(x, 0, 1, 0, 1);
         for (int open = 5; open > 1; open--) {
-            stateIs(x, 0, open, (open - 1) % 2, 0);
-            acts(x, 25);
+            checks.stateIs(x, 0, open, (open - 1) % 2, 0);
+            checks.acts(x, 25);
             varsAre(x, 4);
         }
-        stateIs(x, 0, 1, 0, 0, 3);
+        checks.stateIs(x, 0, 1, 0, 0, 3);
         checks.due("act(0, 25) with one again", x.act(0, 25), -1);
-        acts(x, 0, 2);
+        checks.acts(x, 0, 2);
         checks.due("can(0, 25) with a fault", x.can(0, 25), 0);
         checks.due("act(0, 25) with a fault", x.act(0, 25), -1);
         checks.troubleIs(x, 4);
-        stateIs(x, 2, 0, -1, -1, 1);
+        checks.stateIs(x, 2, 0, -1, -1, 1);
     }
 
     private static void tornAlways() {
@@ -231,29 +217,29 @@ public final class ActEdgesTest {
         WindowHouse x = Checks.with("kept a 9;var b 9;kept c 9;var d 9;kept e 9;var f 9;window a{button s do set a 9,set b 8,set c 7,open b;"
                 + "button o do open a,open a,open a,open a;button f do fault 20;after 9 do close;}"
                 + "window b{button s do set d 6,set e 5,set f 4,close;}");
-        acts(x, 26);
-        stateIs(x, 0, 1, 0, 0);
+        checks.acts(x, 26);
+        checks.stateIs(x, 0, 1, 0, 0);
         varsAre(x, 0, 0, 0, 0, 0, 0);
-        acts(x, 0, 3, 24, 1, 24);
+        checks.acts(x, 0, 3, 24, 1, 24);
         varsAre(x, 9, 8, 7, 6, 5, 4);
-        stateIs(x, 0, 5, 0, 1);
-        acts(x, 26);
-        stateIs(x, 0, 1, 0, 0);
+        checks.stateIs(x, 0, 5, 0, 1);
+        checks.acts(x, 26);
+        checks.stateIs(x, 0, 1, 0, 0);
         varsAre(x, 9, 0, 7, 0, 5, 0);
-        acts(x, 0, 3, 2);
-        stateIs(x, 20, 0, -1, -1, 1);
+        checks.acts(x, 0, 3, 2);
+        checks.stateIs(x, 20, 0, -1, -1, 1);
         varsAre(x, 9, 0, 7, 0, 5, 0);
-        acts(x, 26);
-        stateIs(x, 0, 1, 0, 0);
+        checks.acts(x, 26);
+        checks.stateIs(x, 0, 1, 0, 0);
         varsAre(x, 9, 0, 7, 0, 5, 0);
-        acts(x, 26, 26);
+        checks.acts(x, 26, 26);
         varsAre(x, 9, 0, 7, 0, 5, 0);
         // none is kept, all are
         x = Checks.with("var a 9;window a{button s do set a 9;}");
-        acts(x, 0, 26);
+        checks.acts(x, 0, 26);
         varsAre(x, 0);
         x = Checks.with("kept a 9;window a{button s do set a 9;}");
-        acts(x, 0, 26);
+        checks.acts(x, 0, 26);
         varsAre(x, 9);
     }
 
@@ -261,20 +247,20 @@ public final class ActEdgesTest {
         checks.about("III: open: that WINDOW comes on top, TICKS 0");
         // also the one that is on top already
         WindowHouse x = Checks.with("window a{button o do open a;after 9 do close;}");
-        acts(x, 24, 24, 0);
-        stateIs(x, 0, 2, 0, 0);
-        acts(x, 24, 25);
-        stateIs(x, 0, 1, 0, 2);
+        checks.acts(x, 24, 24, 0);
+        checks.stateIs(x, 0, 2, 0, 0);
+        checks.acts(x, 24, 25);
+        checks.stateIs(x, 0, 1, 0, 2);
         // each of eight, also one that is told behind
         String told = Checks.repeated("window ?{button o do open h;}", 7) + "window h{" + Checks.repeated("button ? do open ?;", 8) + "}";
         for (int w = 0; w < 8; w++) {
             x = Checks.with(told);
-            acts(x, 0);
-            stateIs(x, 0, 2, 7, 0);
-            acts(x, 7 + w);
-            stateIs(x, 0, 3, w, 0);
-            acts(x, 25, 25);
-            stateIs(x, 0, 1, 0, 0);
+            checks.acts(x, 0);
+            checks.stateIs(x, 0, 2, 7, 0);
+            checks.acts(x, 7 + w);
+            checks.stateIs(x, 0, 3, w, 0);
+            checks.acts(x, 25, 25);
+            checks.stateIs(x, 0, 1, 0, 0);
         }
     }
 
@@ -282,52 +268,52 @@ public final class ActEdgesTest {
         checks.about("III: open: (nothing if 5 are open)");
         WindowHouse x = Checks.with("var v 9;window a{button o do open b,add v 1;}window b{button o do open b,add v 1;button c do open a,open c,set v 9;"
                 + "button d do close,open c,open a,add v 2;after 3 do open c,add v 1;}window c{}");
-        acts(x, 0);
+        checks.acts(x, 0);
         for (int open = 2; open < 5; open++) {
-            stateIs(x, 0, open, 1, 0);
+            checks.stateIs(x, 0, open, 1, 0);
             varsAre(x, open - 1);
-            acts(x, 1);
+            checks.acts(x, 1);
         }
-        stateIs(x, 0, 5, 1, 0);
-        acts(x, 24, 24, 1);
+        checks.stateIs(x, 0, 5, 1, 0);
+        checks.acts(x, 24, 24, 1);
         // nothing: the topmost keeps its TICKS, and further DEEDS are done
-        stateIs(x, 0, 5, 1, 2);
+        checks.stateIs(x, 0, 5, 1, 2);
         varsAre(x, 5);
-        acts(x, 2);
-        stateIs(x, 0, 5, 1, 2);
+        checks.acts(x, 2);
+        checks.stateIs(x, 0, 5, 1, 2);
         varsAre(x, 9);
-        acts(x, 24);
-        stateIs(x, 0, 5, 1, 0);
+        checks.acts(x, 24);
+        checks.stateIs(x, 0, 5, 1, 0);
         varsAre(x, 0);
         // behind a close there is room for one
-        acts(x, 3);
-        stateIs(x, 0, 5, 2, 0);
+        checks.acts(x, 3);
+        checks.stateIs(x, 0, 5, 2, 0);
         varsAre(x, 2);
-        acts(x, 25, 25, 25, 25);
-        stateIs(x, 0, 1, 0, 0);
+        checks.acts(x, 25, 25, 25, 25);
+        checks.stateIs(x, 0, 1, 0, 0);
         // five at once, the fifth DEED of them all
         x = Checks.with("window a{button o do open b,open c,open b,open c;}window b{button o do open a;}window c{button o do open a;}");
-        acts(x, 0);
-        stateIs(x, 0, 5, 2, 0);
-        acts(x, 2);
-        stateIs(x, 0, 5, 2, 0);
+        checks.acts(x, 0);
+        checks.stateIs(x, 0, 5, 2, 0);
+        checks.acts(x, 2);
+        checks.stateIs(x, 0, 5, 2, 0);
     }
 
     private static void closeOfOne() {
         checks.about("III: close: the topmost goes (nothing if it is the only one)");
         WindowHouse x = Checks.with("var v 9;window a{button c do close,close,add v 1;button o do open b,open c;after 9 do close;}"
                 + "window b{after 9 do close;}window c{button c do close;button d do close,close,close,close;button e do close,close,close,add v 1;}");
-        acts(x, 24, 24, 0);
-        stateIs(x, 0, 1, 0, 2);
+        checks.acts(x, 24, 24, 0);
+        checks.stateIs(x, 0, 1, 0, 2);
         varsAre(x, 1);
-        acts(x, 1);
-        stateIs(x, 0, 3, 2, 0);
-        acts(x, 2);
-        stateIs(x, 0, 2, 1, 0);
-        acts(x, 25, 1, 3);
-        stateIs(x, 0, 1, 0, 2);
-        acts(x, 1, 4);
-        stateIs(x, 0, 1, 0, 2);
+        checks.acts(x, 1);
+        checks.stateIs(x, 0, 3, 2, 0);
+        checks.acts(x, 2);
+        checks.stateIs(x, 0, 2, 1, 0);
+        checks.acts(x, 25, 1, 3);
+        checks.stateIs(x, 0, 1, 0, 2);
+        checks.acts(x, 1, 4);
+        checks.stateIs(x, 0, 1, 0, 2);
         varsAre(x, 2);
     }
 
@@ -337,14 +323,14 @@ public final class ActEdgesTest {
             for (int value = 0; value <= most; value++) {
                 WindowHouse x = Checks.with("kept z 9;var x " + most + ";var y 9;window a{button s do set z 9,set y 9,set x " + value
                         + ";}");
-                acts(x, 0);
+                checks.acts(x, 0);
                 varsAre(x, 9, value, 9);
             }
             for (int number = 1; number <= 9; number++) {
                 WindowHouse x = Checks.with("kept z 9;var x " + most + ";var y 9;window a{button s do set z 9,set y 9;button n do add x " + number + ";}");
-                acts(x, 0);
+                checks.acts(x, 0);
                 for (int k = 1; k <= 2 * most + 2; k++) {
-                    acts(x, 1);
+                    checks.acts(x, 1);
                     // its neighbours stay
                     varsAre(x, 9, k * number % (most + 1), 9);
                 }
@@ -356,9 +342,9 @@ public final class ActEdgesTest {
         for (int v = 0; v < 6; v++) {
             int[] due = new int[6];
             due[v] = 9;
-            acts(x, v);
+            checks.acts(x, v);
             varsAre(x, due);
-            acts(x, 6 + v);
+            checks.acts(x, 6 + v);
             varsAre(x, 0, 0, 0, 0, 0, 0);
         }
     }
@@ -368,11 +354,11 @@ public final class ActEdgesTest {
         for (int number = 1; number <= 20; number++) {
             WindowHouse x = Checks.with("kept k 9;var v 9;window a{button o do open b,set k 3,set v 3;}window b{button f do set k 4,set v 4,fault " + number
                     + ",set k 5;after 2 do fault " + (21 - number) + ",add k 1;}");
-            acts(x, 0, 1);
-            stateIs(x, number, 0, -1, -1, 1);
+            checks.acts(x, 0, 1);
+            checks.stateIs(x, number, 0, -1, -1, 1);
             varsAre(x, 4, 0);
-            acts(x, 26, 0, 24, 24);
-            stateIs(x, 21 - number, 0, -1, -1, 1);
+            checks.acts(x, 26, 0, 24, 24);
+            checks.stateIs(x, 21 - number, 0, -1, -1, 1);
             varsAre(x, 3, 0);
             for (int act = 0; act < 26; act++) {
                 checks.due("can(0, " + act + ")", x.can(0, act), 0);
@@ -380,20 +366,20 @@ public final class ActEdgesTest {
         }
         // the first of two
         WindowHouse x = Checks.with("window a{button f do fault 3,fault 4;}");
-        acts(x, 0);
-        stateIs(x, 3, 0, -1, -1, 1);
+        checks.acts(x, 0);
+        checks.stateIs(x, 3, 0, -1, -1, 1);
     }
 
     private static void actRefused() {
         checks.about("8: NONE: 1; 2 (ACT); 4");
         WindowHouse x = Checks.with("var v 9;window a{button b do add v 1;button c if v>5 do set v 9;after 5 do close;}");
-        acts(x, 0, 24);
+        checks.acts(x, 0, 24);
         int[][] wrong = {{1, 0, 1}, {-1, 0, 1}, {2, 26, 1}, {1, 27, 1}, {2, -1, 1}, {0, -1, 2}, {0, 27, 2}, {0, Integer.MIN_VALUE, 2},
             {0, Integer.MAX_VALUE, 2}, {0, 100, 2}, {0, 126, 2}, {0, 1, 4}, {0, 2, 4}, {0, 23, 4}, {0, 25, 4}};
         for (int[] row : wrong) {
             checks.due("act(" + row[0] + ", " + row[1] + ")", x.act(row[0], row[1]), -1);
             checks.troubleIs(x, row[2]);
-            stateIs(x, 0, 1, 0, 1, 3);
+            checks.stateIs(x, 0, 1, 0, 1, 3);
             varsAre(x, 1);
         }
         checks.due("act(0, 26)", x.act(0, 26), 1);
@@ -407,10 +393,10 @@ public final class ActEdgesTest {
             checks.due("state(0, " + what + ")", x.state(0, what), -1);
         }
         checks.due("state(0, 4): all BUTTONS, WAIT and TORN", x.state(0, 4), 26);
-        acts(x, 23);
-        stateIs(x, 20, 0, -1, -1, 1);
+        checks.acts(x, 23);
+        checks.stateIs(x, 20, 0, -1, -1, 1);
         x = Checks.with("window a{" + Checks.repeated("button ? do open a;", 24) + "}");
-        acts(x, 23);
+        checks.acts(x, 23);
         checks.due("state(0, 4): all", x.state(0, 4), 27);
         checks.troubleIs(x, 0);
         x.push(-1);
@@ -446,7 +432,7 @@ public final class ActEdgesTest {
         x.can(0, 0);
         x.can(0, 24);
         varsAre(x, 0);
-        stateIs(x, 0, 1, 0, 0);
+        checks.stateIs(x, 0, 1, 0, 0);
     }
 
     private static void beginRefused() {
@@ -455,23 +441,23 @@ public final class ActEdgesTest {
         for (int a = 0; a < 2; a++) {
             x.act(a, 0);
         }
-        acts(x, 24);
+        checks.acts(x, 24);
         for (int a : new int[] {-1, 2, Integer.MIN_VALUE, Integer.MAX_VALUE}) {
             x.push(0);
             checks.due("begin(" + a + ")", x.begin(a), false);
             checks.troubleIs(x, 1);
-            stateIs(x, 0, 2, 0, 1);
+            checks.stateIs(x, 0, 2, 0, 1);
             varsAre(x, 9);
         }
         checks.due("begin(0)", x.begin(0), true);
         checks.troubleIs(x, 0);
-        stateIs(x, 0, 1, 0, 0);
+        checks.stateIs(x, 0, 1, 0, 0);
         varsAre(x, 0);
         checks.due("the other one stays", x.var(1, 0), 8);
         checks.due("begin(0) again", x.begin(0), true);
-        acts(x, 24, 24, 24);
-        stateIs(x, 1);
+        checks.acts(x, 24, 24, 24);
+        checks.stateIs(x, 1);
         checks.due("begin(0) from a fault", x.begin(0), true);
-        stateIs(x, 0, 1, 0, 0);
+        checks.stateIs(x, 0, 1, 0, 0);
     }
 }

@@ -28,6 +28,44 @@ final class Checks {
         due("trouble()", house.trouble(), want);
     }
 
+    /** Does the ACTS by hand in APP 0, each of which must be possible. */
+    void acts(WindowHouse house, int... acts) {
+        for (int act : acts) {
+            due("can(0, " + act + ")", house.can(0, act), 1);
+            due("act(0, " + act + ")", house.act(0, act), 1);
+            troubleIs(house, 0);
+        }
+    }
+
+    /** Of the STATE of APP 0: the FAULT, how many WINDOWS, the topmost, its TICKS, how many ACTS are possible. */
+    void stateIs(WindowHouse house, int... want) {
+        for (int what = 0; what < want.length; what++) {
+            due("state(0, " + what + ")", house.state(0, what), want[what]);
+        }
+    }
+
+    /** That two texts are apart by this row, after so many pairs. */
+    void apartIs(String first, String second, int pairs, int... row) {
+        WindowHouse x = beside(first, second);
+        x.push(26);
+        x.push(25);
+        due("apart() " + first + " / " + second, x.apart(), row.length);
+        troubleIs(x, 0);
+        due("count(4) " + first + " / " + second, x.count(4), pairs);
+        rowIs(x, row);
+    }
+
+    /** That two texts never show unlike, over so many pairs, and the row stays. */
+    void alikeAre(String first, String second, int pairs) {
+        WindowHouse x = beside(first, second);
+        x.push(26);
+        x.push(25);
+        due("apart() " + first + " / " + second, x.apart(), -2);
+        troubleIs(x, 0);
+        due("count(4) " + first + " / " + second, x.count(4), pairs);
+        rowIs(x, 26, 25);
+    }
+
     /** That the ROW of the house is this one, and no longer. */
     void rowIs(WindowHouse house, int... want) {
         due("count(2)", house.count(2), want.length);

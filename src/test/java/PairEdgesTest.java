@@ -49,26 +49,6 @@ public final class PairEdgesTest {
         return k % 100 == 99 ? 5 : k % 10 == 9 ? 4 : 0;
     }
 
-    private static void apartIs(String first, String second, int pairs, int... row) {
-        WindowHouse x = Checks.beside(first, second);
-        x.push(26);
-        x.push(25);
-        checks.due("apart() " + first + " / " + second, x.apart(), row.length);
-        checks.troubleIs(x, 0);
-        checks.due("count(4) " + first + " / " + second, x.count(4), pairs);
-        checks.rowIs(x, row);
-    }
-
-    private static void alikeAre(String first, String second, int pairs) {
-        WindowHouse x = Checks.beside(first, second);
-        x.push(26);
-        x.push(25);
-        checks.due("apart() " + first + " / " + second, x.apart(), -2);
-        checks.troubleIs(x, 0);
-        checks.due("count(4) " + first + " / " + second, x.count(4), pairs);
-        checks.rowIs(x, 26, 25);
-    }
-
     private static void refusedByOne() {
         checks.about("32: NONE: 1 (there aren't both)");
         WindowHouse x = new WindowHouse();
@@ -102,7 +82,7 @@ public final class PairEdgesTest {
             "kept k 2;window a{show k;button n do add k 1;button f do fault 20;}", "window a{button f do fault 1;after 1 do fault 2;}", chain("", "")};
         for (String text : texts) {
             WindowHouse x = Checks.with(text);
-            alikeAre(text, text, x.map(0));
+            checks.alikeAre(text, text, x.map(0));
         }
         // neither the MAP nor the STATES by hand are touched
         WindowHouse x = Checks.beside(texts[1], texts[1]);
@@ -114,20 +94,20 @@ public final class PairEdgesTest {
         checks.due("count(0)", x.count(0), 10);
         checks.due("count(1)", x.count(1), 1);
         // unlike in what is not seen: VARS, TICKS that come to nothing, WINDOWS that never open, BUTTONS that never can be pressed
-        alikeAre("window a{button b do close;}", "var v 1;kept k 1;window a{button b do set v 1,set k 1;}", 3);
-        alikeAre("window a{}", "window a{after 3 do close;}", 3);
-        alikeAre("window a{}window b{button c do fault 1;}", "window a{}", 1);
-        alikeAre("var v 1;window a{button b if v=1 do fault 1;}", "window a{}", 1);
+        checks.alikeAre("window a{button b do close;}", "var v 1;kept k 1;window a{button b do set v 1,set k 1;}", 3);
+        checks.alikeAre("window a{}", "window a{after 3 do close;}", 3);
+        checks.alikeAre("window a{}window b{button c do fault 1;}", "window a{}", 1);
+        checks.alikeAre("var v 1;window a{button b if v=1 do fault 1;}", "window a{}", 1);
     }
 
     private static void unlikeAtFirst() {
         checks.about("32: (no ACT, if they do at first)");
-        apartIs("window a{}", "window b{}", 1);
-        apartIs("window abcdefgh{}", "window abcdefgi{}", 1);
-        apartIs("window abcdefgh{}", "window cbcdefgh{}", 1);
-        apartIs("window a{}", "window aa{}", 1);
-        apartIs("window a{}window b{}", "window b{}window a{}", 1);
-        apartIs("window a{button b do close;}", "window a{button abcdefgh do close;}", 1);
+        checks.apartIs("window a{}", "window b{}", 1);
+        checks.apartIs("window abcdefgh{}", "window abcdefgi{}", 1);
+        checks.apartIs("window abcdefgh{}", "window cbcdefgh{}", 1);
+        checks.apartIs("window a{}", "window aa{}", 1);
+        checks.apartIs("window a{}window b{}", "window b{}window a{}", 1);
+        checks.apartIs("window a{button b do close;}", "window a{button abcdefgh do close;}", 1);
     }
 
     private static void unlikeShown() {
@@ -140,63 +120,63 @@ public final class PairEdgesTest {
                 String first = String.format(shows, sorts[one]);
                 String second = String.format(shows, sorts[other]);
                 if (many[one] != many[other]) {
-                    apartIs(first, second, 1);
+                    checks.apartIs(first, second, 1);
                 } else if (one != other) {
                     // all are 0 at first, then x is 0 and y is 2
-                    apartIs(first, second, 2, 0);
+                    checks.apartIs(first, second, 2, 0);
                 } else {
-                    alikeAre(first, second, 2);
+                    checks.alikeAre(first, second, 2);
                 }
             }
         }
         // the numbers, not the names, nor how far a VAR goes
-        alikeAre("var x 9;window a{show x;button b do set x 9;}", "kept y 1;var z 9;window a{show z;button b do set z 9;}", 2);
-        apartIs("var x 9;window a{show x;button b do set x 9;}", "var x 9;window a{show x;button b do set x 8;}", 2, 0);
-        apartIs("var x 9;window a{show x;button n do add x 1;}", "var x 8;window a{show x;button n do add x 1;}", 10, 0, 0, 0, 0, 0, 0, 0, 0, 0);
+        checks.alikeAre("var x 9;window a{show x;button b do set x 9;}", "kept y 1;var z 9;window a{show z;button b do set z 9;}", 2);
+        checks.apartIs("var x 9;window a{show x;button b do set x 9;}", "var x 9;window a{show x;button b do set x 8;}", 2, 0);
+        checks.apartIs("var x 9;window a{show x;button n do add x 1;}", "var x 8;window a{show x;button n do add x 1;}", 10, 0, 0, 0, 0, 0, 0, 0, 0, 0);
     }
 
     private static void unlikeButtons() {
         checks.about("IV: or BUTTONS of other names that can be pressed");
-        apartIs("window a{button b do close;}", "window a{}", 1);
-        apartIs("window a{}", "window a{button b do close;}", 1);
-        apartIs("window a{button b do close;button c do close;}", "window a{button b do close;}", 1);
-        apartIs("window a{button b do close;}", "window a{button b do close;button c do close;}", 1);
-        apartIs("window a{button b do close;button c do close;}", "window a{button b do close;button d do close;}", 1);
+        checks.apartIs("window a{button b do close;}", "window a{}", 1);
+        checks.apartIs("window a{}", "window a{button b do close;}", 1);
+        checks.apartIs("window a{button b do close;button c do close;}", "window a{button b do close;}", 1);
+        checks.apartIs("window a{button b do close;}", "window a{button b do close;button c do close;}", 1);
+        checks.apartIs("window a{button b do close;button c do close;}", "window a{button b do close;button d do close;}", 1);
         // told in another order they are of the same names
-        alikeAre("window a{button b do close;button c do close;}", "window a{button c do close;button b do close;}", 1);
+        checks.alikeAre("window a{button b do close;button c do close;}", "window a{button c do close;button b do close;}", 1);
         // one that can be pressed no more
-        apartIs("var v 1;window a{button b if v=0 do set v 1;}", "var v 1;window a{button b do set v 1;}", 2, 0);
-        apartIs("var v 1;window a{button b do set v 1;}", "var v 1;window a{button b if v=0 do set v 1;}", 2, 0);
+        checks.apartIs("var v 1;window a{button b if v=0 do set v 1;}", "var v 1;window a{button b do set v 1;}", 2, 0);
+        checks.apartIs("var v 1;window a{button b do set v 1;}", "var v 1;window a{button b if v=0 do set v 1;}", 2, 0);
         // the last of 24
         String all = "window a{" + Checks.repeated("button ? do close;", 23);
-        apartIs(all + "button z do fault 1;}", all + "button z do fault 2;}", 2, 23);
-        apartIs(all + "button z do close;}", all + "button y do close;}", 1);
+        checks.apartIs(all + "button z do fault 1;}", all + "button z do fault 2;}", 2, 23);
+        checks.apartIs(all + "button z do close;}", all + "button y do close;}", 1);
     }
 
     private static void unlikeFaults() {
         checks.about("IV: of another FAULT");
-        apartIs("window a{button b do fault 1;}", "window a{button b do fault 20;}", 2, 0);
-        apartIs("window a{button b do fault 1;}", "window a{button b do close;}", 2, 0);
-        apartIs("window a{button b do close;}", "window a{button b do fault 1;}", 2, 0);
-        apartIs("window a{after 1 do fault 5;}", "window a{after 1 do fault 6;}", 2, 24);
+        checks.apartIs("window a{button b do fault 1;}", "window a{button b do fault 20;}", 2, 0);
+        checks.apartIs("window a{button b do fault 1;}", "window a{button b do close;}", 2, 0);
+        checks.apartIs("window a{button b do close;}", "window a{button b do fault 1;}", 2, 0);
+        checks.apartIs("window a{after 1 do fault 5;}", "window a{after 1 do fault 6;}", 2, 24);
         // one FAULT, unlike by what is kept, shows alike until TORN
-        apartIs("kept k 1;window a{show k;button b do set k 1,fault 1;}", "kept k 1;window a{show k;button b do fault 1;}", 3, 0, 26);
-        alikeAre("kept k 1;window a{button b do set k 1,fault 1;}", "kept k 1;window a{button b do fault 1;}", 3);
+        checks.apartIs("kept k 1;window a{show k;button b do set k 1,fault 1;}", "kept k 1;window a{show k;button b do fault 1;}", 3, 0, 26);
+        checks.alikeAre("kept k 1;window a{button b do set k 1,fault 1;}", "kept k 1;window a{button b do fault 1;}", 3);
         // the number of the FAULT and no WINDOW, not that of a WINDOW
-        alikeAre("window a{button b do fault 3;}", "window a{button b do fault 3;}window c{}", 2);
+        checks.alikeAre("window a{button b do fault 3;}", "window a{button b do fault 3;}window c{}", 2);
     }
 
     private static void aloneInOne() {
         checks.about("32: or whose last ACT is possible in one alone; that last one, if it is APP 1's alone, 100 more");
         String one = "window a{button b do close;}";
         String two = "window a{button b do open a;}";
-        apartIs(two, one, 3, 0, 25);
-        apartIs(one, two, 3, 0, 125);
+        checks.apartIs(two, one, 3, 0, 25);
+        checks.apartIs(one, two, 3, 0, 125);
         // three and two of the same WINDOW look alike, and both have a way BACK; it ends sooner in one
-        apartIs("window a{button o do open a,open a;}", "window a{button o do open a;}", 6, 0, 25, 25);
-        apartIs("window a{button o do open a;}", "window a{button o do open a,open a;}", 6, 0, 25, 125);
+        checks.apartIs("window a{button o do open a,open a;}", "window a{button o do open a;}", 6, 0, 25, 25);
+        checks.apartIs("window a{button o do open a;}", "window a{button o do open a,open a;}", 6, 0, 25, 125);
         // WAIT and TORN are possible in both, but in a FAULT
-        apartIs("window a{after 1 do fault 1;}", "window a{}", 2, 24);
+        checks.apartIs("window a{after 1 do fault 1;}", "window a{}", 2, 24);
         // it is left out when the row is tried, as one that no APP has
         WindowHouse x = Checks.beside(one, two);
         x.apart();
@@ -211,29 +191,29 @@ public final class PairEdgesTest {
     private static void firstMet() {
         checks.about("32: The first row met: of each pair the ACTS of APP 0 by number, then those of APP 1");
         // both b and c show unlike: b is met first, though c is first in APP 1
-        apartIs("window a{button b do fault 1;button c do fault 2;}", "window a{button c do fault 3;button b do fault 4;}", 2, 0);
+        checks.apartIs("window a{button b do fault 1;button c do fault 2;}", "window a{button c do fault 3;button b do fault 4;}", 2, 0);
         // a BUTTON ahead of WAIT, WAIT ahead of BACK, BACK ahead of TORN
-        apartIs("window a{button b do fault 1;after 1 do fault 1;}", "window a{button b do fault 2;after 1 do fault 2;}", 2, 0);
-        apartIs("window a{button b do open a;after 2 do fault 1;}", "window a{button b do close;after 2 do fault 2;}", 5, 0, 25);
-        apartIs("var x 1;kept y 1;window a{show x;show y;button b do set x 1,set y 1,open a;}", "kept x 1;var y 1;window a{show x;show y;button b do set x 1,set y 1;}",
+        checks.apartIs("window a{button b do fault 1;after 1 do fault 1;}", "window a{button b do fault 2;after 1 do fault 2;}", 2, 0);
+        checks.apartIs("window a{button b do open a;after 2 do fault 1;}", "window a{button b do close;after 2 do fault 2;}", 5, 0, 25);
+        checks.apartIs("var x 1;kept y 1;window a{show x;show y;button b do set x 1,set y 1,open a;}", "kept x 1;var y 1;window a{show x;show y;button b do set x 1,set y 1;}",
                 3, 0, 25);
         // TORN of APP 0 ahead of BACK of APP 1 alone
-        apartIs("kept x 1;window a{show x;button b do set x 1;}", "var x 1;window a{show x;button b do set x 1,open a;}", 4, 0, 26);
+        checks.apartIs("kept x 1;window a{show x;button b do set x 1;}", "var x 1;window a{show x;button b do set x 1,open a;}", 4, 0, 26);
         // of the pair met first, though another is as near
-        apartIs("var v 2;window a{button b if v=0 do set v 1;button c if v=0 do set v 2;button d if v=2 do fault 1;button e if v=1 do fault 1;}",
+        checks.apartIs("var v 2;window a{button b if v=0 do set v 1;button c if v=0 do set v 2;button d if v=2 do fault 1;button e if v=1 do fault 1;}",
                 "var v 2;window a{button b if v=0 do set v 1;button c if v=0 do set v 2;button d if v=2 do fault 2;button e if v=1 do fault 2;}", 4, 0, 3);
         // a pair is two STATES: each of them may be met again
-        apartIs("var v 1;window a{button b do add v 1;}", "var v 2;window a{button b do add v 1;button c if v>1 do close;}", 3, 0, 0);
+        checks.apartIs("var v 1;window a{button b do add v 1;}", "var v 2;window a{button b do add v 1;button c if v>1 do close;}", 3, 0, 0);
     }
 
     private static void byNames() {
         checks.about("IV: rows of ACTS that are told by names; 32: by ACTS of APP 0");
-        apartIs("window a{button x do close;button y do close;button z do open b;}window b{button u do close;button v do fault 1;}",
+        checks.apartIs("window a{button x do close;button y do close;button z do open b;}window b{button u do close;button v do fault 1;}",
                 "window a{button z do open c;button y do close;button x do close;}window c{}window b{button v do fault 2;button u do close;}", 2, 2);
-        apartIs("window a{button x do close;button y do close;button z do open b;}window b{button u do close;button v do fault 1;}",
+        checks.apartIs("window a{button x do close;button y do close;button z do open b;}window b{button u do close;button v do fault 1;}",
                 "window a{button z do open b;button y do close;button x do close;}window c{}window b{button v do fault 2;button u do close;}", 3, 2, 4);
         // the BUTTON of that name in the topmost WINDOW, not in another
-        alikeAre("window a{button x do open b;}window b{button x do fault 1;}",
+        checks.alikeAre("window a{button x do open b;}window b{button x do fault 1;}",
                 "window a{button x do open b;}window c{button x do fault 2;}window b{button x do fault 1;}", 3);
     }
 
@@ -272,11 +252,11 @@ public final class PairEdgesTest {
 
     private static void pairsOf400() {
         checks.about("32: 400 pairs");
-        alikeAre(chain("", ""), chain("", ""), 400);
+        checks.alikeAre(chain("", ""), chain("", ""), 400);
         // both have few STATES, but many together: 20 by 20, none of which is seen
         String first = "var a 3;var b 4;window w{button a do add a 1;button b do add b 1;}";
         String second = "var a 4;var b 3;window w{button a do add a 1;button b do add b 1;}";
-        alikeAre(first, second, 400);
+        checks.alikeAre(first, second, 400);
         WindowHouse x = Checks.beside(first, second);
         checks.due("map(0)", x.map(0), 20);
         checks.due("map(1)", x.map(1), 20);

@@ -321,18 +321,17 @@ public final class ActEdgesTest {
         checks.about("III: add: the VAR and NUMBER together, by the VAR's greatest and one more what is left");
         for (int most = 1; most <= 9; most++) {
             for (int value = 0; value <= most; value++) {
-                WindowHouse x = Checks.with("kept z 9;var x " + most + ";var y 9;window a{button s do set z 9,set y 9,set x " + value
-                        + ";}");
-                checks.acts(x, 0);
-                varsAre(x, 9, value, 9);
-            }
-            for (int number = 1; number <= 9; number++) {
-                WindowHouse x = Checks.with("kept z 9;var x " + most + ";var y 9;window a{button s do set z 9,set y 9;button n do add x " + number + ";}");
-                checks.acts(x, 0);
-                for (int k = 1; k <= 2 * most + 2; k++) {
-                    checks.acts(x, 1);
+                StringBuilder text = new StringBuilder("kept z 9;var x " + most + ";var y 9;window a{button s do set z 9,set y 9,set x " + value + ";");
+                for (int number = 1; number <= 9; number++) {
+                    text.append("button ").append((char) ('a' + number)).append(" do add x ").append(number).append(';');
+                }
+                WindowHouse x = Checks.with(text.append('}').toString());
+                for (int number = 1; number <= 9; number++) {
+                    checks.acts(x, 0);
+                    varsAre(x, 9, value, 9);
+                    checks.acts(x, number);
                     // its neighbours stay
-                    varsAre(x, 9, k * number % (most + 1), 9);
+                    varsAre(x, 9, (value + number) % (most + 1), 9);
                 }
             }
         }

@@ -61,6 +61,13 @@ public final class MapEdgesTest {
         checks.due("leads(399, 24)", x.leads(399, 24), 399);
         checks.due("leads(399, 26)", x.leads(399, 26), 0);
         checks.due("leads(400, 26)", x.leads(400, 26), -1);
+        // each of them goes through all 400, also where none is such
+        checks.due("stuck(0)", x.stuck(0), -2);
+        checks.due("faultAt(20)", x.faultAt(20), -2);
+        checks.due("holdsAt(2, 9)", x.holdsAt(2, 9), -2);
+        checks.due("never()", x.never(), 0);
+        checks.due("views()", x.views(), 4);
+        checks.due("least()", x.least(), 400);
         checks.due("rowTo(400)", x.rowTo(400), -1);
         checks.troubleIs(x, 1);
         checks.due("rowTo(399)", x.rowTo(399), 399);
@@ -71,6 +78,13 @@ public final class MapEdgesTest {
         checks.due("a row of 400", x.push(26), 400);
         checks.due("push", x.push(26), -1);
         checks.troubleIs(x, 4);
+        // a WINDOW that is never topmost, a BUTTON that never can be pressed
+        x = Checks.mapped(CHAIN.replace("#", "button z if a=8 and b>9 do close;") + "window v{}");
+        checks.due("count(0)", x.count(0), 400);
+        checks.due("stuck(0)", x.stuck(0), -2);
+        checks.due("stuck(1)", x.stuck(1), 0);
+        checks.due("pressedAt(3)", x.pressedAt(3), -2);
+        checks.due("never()", x.never(), 1);
     }
 
     private static void mapOf401() {

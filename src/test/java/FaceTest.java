@@ -46,7 +46,7 @@ public final class FaceTest {
             int tryRow(int)
             int tried()
             int shorter(int)
-            int row(int)
+            int row(int) throws NoSuchElementException
             int apart()
             int count(int)
             int trouble()
@@ -83,7 +83,11 @@ public final class FaceTest {
                 for (Class<?> type : method.getParameterTypes()) {
                     types.append(types.length() > 0 ? "," : "").append(type.getSimpleName());
                 }
-                got.add(method.getReturnType().getSimpleName() + " " + method.getName() + "(" + types + ")");
+                StringBuilder thrown = new StringBuilder();
+                for (Class<?> type : method.getExceptionTypes()) {
+                    thrown.append(" throws ").append(type.getSimpleName());
+                }
+                got.add(method.getReturnType().getSimpleName() + " " + method.getName() + "(" + types + ")" + thrown);
                 names.add(method.getName());
                 must(!Modifier.isStatic(method.getModifiers()), "not static: " + method);
             } else {
@@ -91,9 +95,14 @@ public final class FaceTest {
             }
         }
         must(due.equals(got), "the face is " + got);
+        Set<String> constants = new TreeSet<>();
         for (Field field : house.getDeclaredFields()) {
-            must(Modifier.isPrivate(field.getModifiers()) || field.getName().equals("NONE"), "private: " + field);
+            if (!Modifier.isPrivate(field.getModifiers())) {
+                constants.add(Modifier.toString(field.getModifiers()) + " " + field.getType() + " " + field.getName());
+            }
         }
+        must(constants.equals(Set.of("public static final int NONE")), "the constants are " + constants);
+        must(WindowHouse.NONE == -1, "NONE is -1");
         Constructor<?>[] makers = house.getDeclaredConstructors();
         must(makers.length == 1 && Modifier.isPublic(makers[0].getModifiers()) && makers[0].getParameterCount() == 0, "one constructor");
         for (Class<?> inner : all()) {

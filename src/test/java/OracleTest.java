@@ -27,11 +27,14 @@ public final class OracleTest {
             runOne(new TextMaker(SEED * 9_000_000 + k));
         }
         for (int k = 0; k < RUNS && wrong == 0; k++) {
+            reorderOne(new TextMaker(SEED * 3_000_000 + k));
+        }
+        for (int k = 0; k < RUNS && wrong == 0; k++) {
             shortenOne(new TextMaker(SEED * 5_000_000 + k));
         }
         System.out.println("met: " + seen);
         for (String must : List.of("fault 0", "fault 1", "fault 2", "fault 3", "fault 4", "fault 5", "map 0", "map 5",
-                "apart -2", "apart row", "apart 100", "apart 5", "stuck -2", "shorter 0", "shorter 4", "kinds fewer")) {
+                "apart -2", "apart row", "apart 100", "apart 5", "reordered -2", "changed -2", "changed row", "stuck -2", "shorter 0", "shorter 4", "kinds fewer")) {
             if (!seen.containsKey(must)) {
                 System.out.println("never met: " + must);
                 wrong++;
@@ -102,7 +105,8 @@ public final class OracleTest {
                 tell(house, oracle, 0, maker.text(first));
             }
             if (step == twoAfter || maker.once(40)) {
-                List<String> other = maker.once(5) ? first : maker.changed(first);
+                List<String> same = maker.once(2) ? maker.reordered() : first;
+                List<String> other = maker.once(5) ? same : maker.changed(same);
                 tell(house, oracle, maker.once(8) ? 0 : 1, maker.text(maker.once(9) ? maker.spoilt(other) : other));
             }
             int arg = maker.once(20) ? maker.upTo(60) - 30 : maker.upTo(9);
@@ -119,6 +123,26 @@ public final class OracleTest {
             wrong++;
             System.out.println("the run made " + calls + " calls");
         }
+    }
+
+    /** An APP beside itself told in another order, and beside one that is changed as well: told by names, not by numbers. */
+    private static void reorderOne(TextMaker maker) {
+        WindowHouse house = new WindowHouse();
+        Oracle oracle = new Oracle();
+        tell(house, oracle, 0, maker.text(maker.tokens(false)));
+        tell(house, oracle, 1, maker.text(maker.reordered()));
+        int apart = oracle.apart();
+        same("apart of an APP told in another order", house.apart(), apart);
+        if (apart >= 0) {
+            same("they show alike", apart, -2);
+        }
+        note("reordered " + (apart == -2 ? "-2" : oracle.trouble()));
+        tell(house, oracle, 1, maker.text(maker.changed(maker.reordered())));
+        apart = oracle.apart();
+        same("apart of one that is changed, too", house.apart(), apart);
+        same("count(4)", house.count(4), oracle.count(4));
+        note("changed " + (apart == -2 ? "-2" : apart >= 0 ? "row" : oracle.trouble()));
+        rows(house, oracle);
     }
 
     /** A run that does nothing but make rows shorter that come to a fault: such are rare among the others. */

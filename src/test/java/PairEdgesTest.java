@@ -271,6 +271,13 @@ public final class PairEdgesTest {
         checks.troubleIs(x, 5);
         checks.due("count(4)", x.count(4), 400);
         checks.rowIs(x, 3);
+        // the 401st is one more, whether it shows unlike or not
+        x = Checks.beside(chain("", end), chain("", end.replace("fault 1", "fault 2")));
+        x.push(3);
+        checks.due("apart()", x.apart(), -1);
+        checks.troubleIs(x, 5);
+        checks.due("count(4)", x.count(4), 400);
+        checks.rowIs(x, 3);
         // 21 by 20
         x = Checks.beside("var a 6;var b 2;window w{button a do add a 1;button b do add b 1;}", "var a 4;var b 3;window w{button a do add a 1;button b do add b 1;}");
         x.push(3);

@@ -1,4 +1,5 @@
 import java.util.ArrayList;
+import java.util.Collections;
 import java.util.List;
 import java.util.Random;
 
@@ -15,6 +16,10 @@ final class TextMaker {
     private List<String> vars = new ArrayList<>();
     private List<Integer> mosts = new ArrayList<>();
     private List<String> windows = new ArrayList<>();
+    /** Where in tokens each VAR begins, and the first WINDOW behind them. */
+    private final List<Integer> varStarts = new ArrayList<>();
+    /** Of each WINDOW: where it begins, each of its BUTTONS, what is behind these, and where it ends. */
+    private final List<List<Integer>> windowStarts = new ArrayList<>();
 
     TextMaker(long seed) {
         random = new Random(seed);
@@ -46,13 +51,17 @@ final class TextMaker {
     /** The TOKENS of an APP; a large one has more of everything than there may be, now and then. */
     List<String> tokens(boolean large) {
         tokens.clear();
+        varStarts.clear();
+        windowStarts.clear();
         vars = names(upTo(large ? 7 : 3));
         mosts = new ArrayList<>();
         for (String name : vars) {
             int most = 1 + upTo(large ? 8 : 2);
             mosts.add(most);
+            varStarts.add(tokens.size());
             put(once(3) ? "kept" : "var", name, "" + most, ";");
         }
+        varStarts.add(tokens.size());
         windows = names(1 + upTo(large ? 8 : 2));
         for (String name : windows) {
             window(name, large);
@@ -61,12 +70,15 @@ final class TextMaker {
     }
 
     private void window(String name, boolean large) {
+        List<Integer> starts = new ArrayList<>(List.of(tokens.size()));
+        windowStarts.add(starts);
         put("window", name, "{");
         int shows = vars.isEmpty() ? 0 : upTo(large && once(4) ? 7 : 2);
         for (int k = 0; k < shows; k++) {
             put("show", vars.get(upTo(vars.size() - 1)), ";");
         }
         for (String button : names(upTo(large ? 5 : 4))) {
+            starts.add(tokens.size());
             put("button", button);
             int conds = vars.isEmpty() || once(2) ? 0 : 1 + upTo(large && once(9) ? 3 : 1);
             for (int k = 0; k < conds; k++) {
@@ -74,11 +86,44 @@ final class TextMaker {
             }
             deeds(large);
         }
+        starts.add(tokens.size());
         if (once(3)) {
             put("after", (once(4) ? "0" : "") + (1 + upTo(large ? 8 : 2)));
             deeds(large);
         }
         put("}");
+        starts.add(tokens.size());
+    }
+
+    /** The latest APP told in another order: VARS, WINDOWS but for the first, BUTTONS in their WINDOWS. It shows alike. */
+    List<String> reordered() {
+        List<String> other = new ArrayList<>();
+        for (int v : shuffled(0, varStarts.size() - 1)) {
+            other.addAll(tokens.subList(varStarts.get(v), varStarts.get(v + 1)));
+        }
+        addReordered(other, windowStarts.get(0));
+        for (int w : shuffled(1, windowStarts.size())) {
+            addReordered(other, windowStarts.get(w));
+        }
+        return other;
+    }
+
+    private void addReordered(List<String> other, List<Integer> starts) {
+        int tail = starts.size() - 2;
+        other.addAll(tokens.subList(starts.get(0), starts.get(1)));
+        for (int b : shuffled(1, tail)) {
+            other.addAll(tokens.subList(starts.get(b), starts.get(b + 1)));
+        }
+        other.addAll(tokens.subList(starts.get(tail), starts.get(tail + 1)));
+    }
+
+    private List<Integer> shuffled(int from, int end) {
+        List<Integer> some = new ArrayList<>();
+        for (int k = from; k < end; k++) {
+            some.add(k);
+        }
+        Collections.shuffle(some, random);
+        return some;
     }
 
     private void deeds(boolean large) {

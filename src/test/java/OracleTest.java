@@ -6,7 +6,9 @@ import java.util.TreeMap;
 /** Holds the class against the plain one, call by call, over many made texts and rows of calls. */
 public final class OracleTest {
     private static final int TEXTS = 12000;
-    private static final int RUNS = Integer.getInteger("runs", 3000);
+    /** With so many runs each sort of answer must have been met; fewer may well miss one. */
+    private static final int ENOUGH = 3000;
+    private static final int RUNS = Integer.getInteger("runs", ENOUGH);
     /** An object is promised to be used for no more calls than these. */
     private static final int MOST_CALLS = 512;
     /** More than any step of a run makes, the telling of two texts with it. */
@@ -35,7 +37,7 @@ public final class OracleTest {
         System.out.println("met: " + seen);
         for (String must : List.of("fault 0", "fault 1", "fault 2", "fault 3", "fault 4", "fault 5", "map 0", "map 5",
                 "apart -2", "apart row", "apart 100", "apart 5", "reordered -2", "changed -2", "changed row", "stuck -2", "shorter 0", "shorter 4", "kinds fewer")) {
-            if (!seen.containsKey(must)) {
+            if (RUNS >= ENOUGH && !seen.containsKey(must)) {
                 System.out.println("never met: " + must);
                 wrong++;
             }
